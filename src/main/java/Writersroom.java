@@ -1012,7 +1012,10 @@ public final class Writersroom {
     }
 
     boolean teaches(int person, int fact) {
-      return hasPerson(person) && tells(fact) && !keepsFrom(person, fact);
+      if (person < 0 || person >= factsKept.length) {
+        return false;
+      }
+      return hasBit(peopleThere, person) && hasBit(factsTold & ~factsKept[person], fact);
     }
   }
 

@@ -1,0 +1,41 @@
+import java.util.Objects;
+
+/** Counts and prints what is not as it is due. */
+final class Check {
+  private static int made = 0;
+  private static int wrong = 0;
+
+  interface Call {
+    Object run();
+  }
+
+  private Check() {}
+
+  static void same(String what, Object got, Object want) {
+    made++;
+    if (!Objects.equals(got, want)) {
+      wrong++;
+      System.out.println(what + " answered " + got + ", due is " + want);
+    }
+  }
+
+  static void fails(String what, Class<? extends RuntimeException> due, Call call) {
+    same(what, outcome(call), "throws " + due.getSimpleName());
+  }
+
+  /** Returns the answer, or which exception is thrown. */
+  static Object outcome(Call call) {
+    try {
+      return call.run();
+    } catch (RuntimeException thrown) {
+      return "throws " + thrown.getClass().getSimpleName();
+    }
+  }
+
+  static void end() {
+    System.out.println(made + " checks, " + wrong + " wrong");
+    if (wrong != 0 || made == 0) {
+      System.exit(1);
+    }
+  }
+}
