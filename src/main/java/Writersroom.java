@@ -883,7 +883,7 @@ public final class Writersroom {
   }
 
   private boolean refusesWord(int person, int word) {
-    if (!isBelow(person, people.size())) {
+    if (person < 0 || person >= people.size()) {
       return false;
     }
     boolean[] refused = people.get(person).refused;
@@ -891,7 +891,7 @@ public final class Writersroom {
   }
 
   private void setRefused(int person, int word, boolean isRefused) {
-    if (!isBelow(person, people.size())) {
+    if (person < 0 || person >= people.size()) {
       return;
     }
     boolean[] refused = people.get(person).refused;

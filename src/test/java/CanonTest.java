@@ -16,6 +16,7 @@ public final class CanonTest {
     remembers();
     remembersRefused();
     recap();
+    recapOfOneAct();
     recapRefused();
     Check.end();
   }
@@ -176,13 +177,32 @@ public final class CanonTest {
     Check.same("first fact", room.recapAt(4, false, 0), 1);
     Check.same("second fact", room.recapAt(4, false, 1), 3);
     Check.fails("no third fact", NONE, () -> room.recapAt(4, false, 2));
+    room.tell(0, 0);
+    Check.same("with the least fact", room.recap(4, false), 3);
+    Check.same("first of three", room.recapAt(4, false, 0), 0);
+    Check.same("last of three", room.recapAt(4, false, 2), 3);
     room.present(2, 0, false);
-    Check.same("acts of who is not present any more", room.recap(4, false), 2);
+    Check.same("acts of who is not present any more", room.recap(4, false), 3);
     room.setCut(2, true);
     Check.same("in a cut one", room.recap(4, false), 0);
     room.setCut(2, false);
     room.setCut(0, true);
     Check.same("told in a cut one", room.recap(4, false), 0);
+  }
+
+  private static void recapOfOneAct() {
+    Writersroom room = Rooms.with(1, 2, 1);
+    Rooms.scene(room, 2, 0);
+    Rooms.present(room, 1, 0);
+    room.tell(0, 0);
+    room.tell(0, 1);
+    Check.same("no act", room.recap(2, true), 0);
+    room.act(1, 0, 1);
+    Check.same("one act", room.recap(2, true), 1);
+    Check.same("on this fact", room.recapAt(2, true, 0), 1);
+    room.move(1, 1, 0);
+    Check.same("it is remembered", room.recap(1, true), 0);
+    Check.same("moved away", room.recap(2, true), 0);
   }
 
   private static void recapRefused() {

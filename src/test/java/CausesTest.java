@@ -77,8 +77,8 @@ public final class CausesTest {
   private static void wrongCauses() {
     Writersroom room = Rooms.with(0, 0, 3);
     Check.same("none", room.wrongCauses(), 0);
-    room.cause(0, 1);
     room.cause(2, 0);
+    room.cause(0, 1);
     room.cause(2, 1);
     Check.same("two go back", room.wrongCauses(), 2);
     room.move(1, 1, 0);

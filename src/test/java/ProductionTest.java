@@ -31,7 +31,8 @@ public final class ProductionTest {
     Check.same("was", room.never(1, 99, true), true);
     Check.same("not the other person", room.never(0, 99, false), false);
     Check.same("not another word", room.never(1, 98, false), false);
-    Check.same("the least word", room.never(1, 0, false), false);
+    Check.same("the least word", room.never(1, 0, true), false);
+    Check.same("the least word then", room.never(1, 0, false), true);
     Check.same("not any more", room.never(1, 99, false), true);
     Check.same("it was not", room.never(1, 99, false), false);
     Check.fails("person -1", INDEX, () -> room.never(-1, 0, true));
@@ -224,6 +225,8 @@ public final class ProductionTest {
     Check.same("each act goes to another one", room.leaving(0, 0), 0);
     room.keep(0, 1, 1, true);
     Check.same("one act for which there is none", room.leaving(0, 0), 1);
+    room.act(0, 2, 1);
+    Check.same("the first person can take it", room.leaving(2, 0), 0);
   }
 
   private static void promise() {

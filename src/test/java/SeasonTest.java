@@ -200,6 +200,9 @@ public final class SeasonTest {
     Check.same("no scenes", room.goesBack(), 0);
     room.scene(0, 0, 5, 0, 0);
     Check.same("one scene", room.goesBack(), 0);
+    room.scene(0, 1, 4, 0, 0);
+    Check.same("two scenes, a day back", room.goesBack(), 1);
+    room.setCut(1, true);
     room.scene(0, 1, 5, 0, 0);
     Check.same("the same day", room.goesBack(), 0);
     room.scene(0, 2, 4, 0, 0);
@@ -207,11 +210,11 @@ public final class SeasonTest {
     room.scene(1, 0, 999, 0, 0);
     room.scene(2, 0, 0, 0, 0);
     Check.same("back once more", room.goesBack(), 2);
-    room.move(3, 7, 0);
+    room.move(4, 7, 0);
     Check.same("by the order", room.goesBack(), 2);
-    room.setCut(2, true);
+    room.setCut(3, true);
     Check.same("5 5 0 999", room.goesBack(), 1);
-    room.setCut(4, true);
+    room.setCut(5, true);
     Check.same("5 5 999", room.goesBack(), 0);
   }
 }

@@ -16,7 +16,7 @@ final class Calls {
     try {
       return method.invoke(room, arguments);
     } catch (InvocationTargetException thrown) {
-      return "throws " + thrown.getCause().getClass().getSimpleName();
+      return Check.nameOf(thrown.getCause());
     } catch (IllegalAccessException impossible) {
       throw new AssertionError(impossible);
     }

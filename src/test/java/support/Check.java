@@ -28,8 +28,17 @@ final class Check {
     try {
       return call.run();
     } catch (RuntimeException thrown) {
-      return "throws " + thrown.getClass().getSimpleName();
+      return nameOf(thrown);
     }
+  }
+
+  /** An exception of a list or an array, though of the class that is due, was not thrown by us. */
+  static String nameOf(Throwable thrown) {
+    StackTraceElement[] trace = thrown.getStackTrace();
+    boolean isOurs = trace.length > 0
+        && (trace[0].getClassName().startsWith("Writersroom")
+            || trace[0].getClassName().startsWith("Model"));
+    return (isOurs ? "throws " : "the machine throws ") + thrown.getClass().getSimpleName();
   }
 
   static void end() {

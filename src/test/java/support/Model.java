@@ -215,8 +215,9 @@ final class Model {
 
   public int since(int person, int fact) {
     index(isPerson(person), isFact(fact));
-    return order().stream().filter(s -> learns(s, person, fact)).findFirst()
-        .orElseThrow(NoSuchElementException::new).number;
+    Scene first = order().stream().filter(s -> learns(s, person, fact)).findFirst().orElse(null);
+    if (first == null) throw new NoSuchElementException();
+    return first.number;
   }
 
   public int unknown() {
