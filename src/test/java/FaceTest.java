@@ -18,7 +18,9 @@ public final class FaceTest {
     int from = document.indexOf("```java");
     methods(document.substring(from, document.indexOf("```", from + 7)));
     members();
-    language(Files.readString(Path.of("src/main/java/Writersroom.java")));
+    String source = Files.readString(Path.of("src/main/java/Writersroom.java"));
+    headings(document, source);
+    language(source);
     Check.end();
   }
 
@@ -89,6 +91,25 @@ public final class FaceTest {
           !Modifier.isStatic(modifiers) || Modifier.isFinal(modifiers), true);
     }
     Check.same(type + " has at most twenty fields", own <= 20, true);
+  }
+
+  /** "Ahead of the calls .. the interface says": the last heading ahead of each of them. */
+  private static void headings(String document, String source) {
+    Matcher group = Pattern.compile("Ahead of the calls (.*?) the interface says: (.*?)\\.\n")
+        .matcher(document);
+    int calls = 0;
+    while (group.find()) {
+      Matcher call = Pattern.compile("`(\\w+)`").matcher(group.group(1));
+      while (call.find()) {
+        calls++;
+        int at = source.indexOf(" " + call.group(1) + "(", source.indexOf("public Writersroom()"));
+        String ahead = source.substring(0, source.lastIndexOf("  public ", at));
+        String heading = ahead.substring(ahead.lastIndexOf("\n  // ") + 6);
+        Check.same("the heading ahead of " + call.group(1),
+            heading.substring(0, heading.indexOf('\n')), group.group(2));
+      }
+    }
+    Check.same("calls with a heading", calls, 48);
   }
 
   /** What a look at the text can tell of LANGUAGE.md. */

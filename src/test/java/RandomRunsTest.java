@@ -1,11 +1,11 @@
 import java.util.ArrayList;
-import java.util.Arrays;
 import java.util.List;
-import java.util.TreeMap;
 
 /**
  * Runs of 512 calls by fixed seeds, each call on a room and on the model. A call that throws leaves
- * the model as it was, so that a room which such a call changes differs from it later.
+ * the model as it was, so that a room which such a call changes differs from it later. All that can
+ * be asked takes more calls than the document promises anything about on one object: it is asked of
+ * rooms on which the run so far is made once more.
  */
 public final class RandomRunsTest {
   /** The arguments of each call that tells something, and how often it is made. */
@@ -14,6 +14,13 @@ public final class RandomRunsTest {
     "12 tell s f", "5 keep s p f b", "9 act s p f", "9 cause s s", "4 setUp s", "6 pay u s",
     "4 question s f e", "3 stay q b", "10 state s f b r", "8 propose w s e m", "8 vote w w B",
     "5 merge w", "4 never p x b", "6 say s p x", "3 promise p e",
+  };
+  /** The arguments of each call that asks something. */
+  private static final String[] ASKING = {
+    "sceneAt s", "goesBack", "knows p f s", "since p f", "unknown", "knowers f", "wrongCauses",
+    "depth s", "unpaid", "questionIs q", "clashes f", "repair f", "isSo f", "remembers f e b",
+    "recap e b", "recapAt e b f", "wrongLines", "shooting e", "leaving p e", "broken", "credit e w",
+    "checksum", "paidShare", "meanDepth", "isSound",
   };
   /** The first of these numbers airs rarely, the others more often. */
   private static final int[] AIRINGS = {1, 3, 8, 20};
@@ -51,22 +58,27 @@ public final class RandomRunsTest {
   }
 
   private void play() {
-    Writersroom room = new Writersroom();
+    Run room = new Run();
     Model model = new Model();
-    for (int call = 0; call < 512; call++) {
-      String[] parts = choose(call).split(" ");
-      Object[] arguments = new Object[parts.length - 1];
-      for (int i = 0; i < arguments.length; i++) {
-        arguments[i] = argument(parts[i + 1].charAt(0));
-      }
-      Object due = Calls.answer(model, parts[0], arguments);
-      String what = "run " + run + ", call " + call + ": " + parts[0] + Arrays.toString(arguments);
-      Check.same(what, Calls.answer(room, parts[0], arguments), due);
-      count(parts[0], due);
-      if (call % 64 == 63) {
-        compareAll("run " + run + ", behind call " + call, room, model);
+    List<String> made = new ArrayList<>();
+    for (int call = 0; call < Run.MOST_CALLS; call++) {
+      String text = withArguments(choose(call));
+      Object due = Calls.answer(model, text);
+      Check.same("run " + run + ", call " + call + ": " + text, room.answer(text), due);
+      made.add(text);
+      count(text, due);
+      if (call % 100 == 99 && call < 450) {
+        compareAll("run " + run + ", behind call " + call, made, model);
       }
     }
+  }
+
+  private String withArguments(String template) {
+    StringBuilder text = new StringBuilder();
+    for (String part : template.split(" ")) {
+      text.append(text.length() == 0 ? part : " " + argument(part.charAt(0)));
+    }
+    return text.toString();
   }
 
   private String choose(int call) {
@@ -84,7 +96,7 @@ public final class RandomRunsTest {
     if (call < 12) {
       return call % 3 == 0 ? "person b" : call % 3 == 1 ? "fact" : "scene e m d t w";
     }
-    return deck.get(below(deck.size()));
+    return below(4) == 0 ? ASKING[below(ASKING.length)] : deck.get(below(deck.size()));
   }
 
   private Object argument(char kind) {
@@ -117,21 +129,25 @@ public final class RandomRunsTest {
     return chance == 1 ? bound : below(bound);
   }
 
-  private void count(String name, Object due) {
+  private void count(String call, Object due) {
     boolean isMade = due instanceof Integer;
-    people += isMade && name.equals("person") ? 1 : 0;
-    facts += isMade && name.equals("fact") ? 1 : 0;
-    scenes += isMade && name.equals("scene") ? 1 : 0;
+    people += isMade && call.startsWith("person ") ? 1 : 0;
+    facts += isMade && call.equals("fact") ? 1 : 0;
+    scenes += isMade && call.startsWith("scene ") ? 1 : 0;
     if (scenes >= mostScenes) {
-      deck.removeIf(call -> call.startsWith("scene "));
+      deck.removeIf(template -> template.startsWith("scene "));
     }
   }
 
-  private void compareAll(String where, Writersroom room, Model model) {
-    TreeMap<String, Object> got = Calls.allAnswers(room, people, Math.min(facts, 6), scenes);
-    TreeMap<String, Object> due = Calls.allAnswers(model, people, Math.min(facts, 6), scenes);
-    for (String question : due.keySet()) {
-      Check.same(where + ": " + question, got.get(question), due.get(question));
+  private void compareAll(String where, List<String> made, Model model) {
+    List<String> asking = Calls.asking(people, Math.min(facts, 6), scenes);
+    int chunk = Run.MOST_CALLS - made.size();
+    for (int from = 0; from < asking.size(); from += chunk) {
+      Run again = new Run();
+      made.forEach(again::answer);
+      for (String call : asking.subList(from, Math.min(from + chunk, asking.size()))) {
+        Check.same(where + ": " + call, again.answer(call), Calls.answer(model, call));
+      }
     }
   }
 }

@@ -1,18 +1,28 @@
 import java.lang.reflect.InvocationTargetException;
 import java.lang.reflect.Method;
+import java.lang.reflect.Modifier;
+import java.util.ArrayList;
 import java.util.HashMap;
+import java.util.List;
 import java.util.Map;
-import java.util.TreeMap;
 
-/** Calls a room, or a model of one, by the names of its methods. */
+/** Calls a room, or a model of one, by texts such as "tell 2 0" or "strike true". */
 final class Calls {
   private static final Map<Class<?>, Map<String, Method>> METHODS = new HashMap<>();
 
   private Calls() {}
 
   /** Returns the answer, or which exception is thrown. */
-  static Object answer(Object room, String name, Object... arguments) {
-    Method method = METHODS.computeIfAbsent(room.getClass(), Calls::methodsOf).get(name);
+  static Object answer(Object room, String call) {
+    String[] words = call.split(" ");
+    Method method = METHODS.computeIfAbsent(room.getClass(), Calls::methodsOf).get(words[0]);
+    if (method == null || method.getParameterCount() != words.length - 1) {
+      throw new AssertionError("there is no call " + call);
+    }
+    Object[] arguments = new Object[words.length - 1];
+    for (int i = 0; i < arguments.length; i++) {
+      arguments[i] = argument(method.getParameterTypes()[i], words[i + 1], call);
+    }
     try {
       return method.invoke(room, arguments);
     } catch (InvocationTargetException thrown) {
@@ -22,10 +32,20 @@ final class Calls {
     }
   }
 
+  private static Object argument(Class<?> type, String word, String call) {
+    if (type == int.class) {
+      return Integer.valueOf(word);
+    }
+    if (!word.equals("true") && !word.equals("false")) {
+      throw new AssertionError(word + " is neither true nor false: " + call);
+    }
+    return word.equals("true");
+  }
+
   private static Map<String, Method> methodsOf(Class<?> type) {
     Map<String, Method> all = new HashMap<>();
     for (Method method : type.getDeclaredMethods()) {
-      if (java.lang.reflect.Modifier.isPublic(method.getModifiers())) {
+      if (Modifier.isPublic(method.getModifiers())) {
         method.setAccessible(true);
         all.put(method.getName(), method);
       }
@@ -33,69 +53,60 @@ final class Calls {
     return all;
   }
 
-  /** Asks all that can be asked of some people, facts and scenes without telling anything. */
-  static TreeMap<String, Object> allAnswers(Object room, int people, int facts, int scenes) {
-    TreeMap<String, Object> all = new TreeMap<>();
-    for (String name : new String[] {"goesBack", "unknown", "wrongCauses", "unpaid", "wrongLines",
-        "broken", "checksum", "paidShare", "meanDepth", "isSound"}) {
-      ask(all, room, name);
-    }
+  /** All that can be asked about so many people, facts and scenes, and about one beyond each. */
+  static List<String> asking(int people, int facts, int scenes) {
+    List<String> all = new ArrayList<>(List.of("goesBack", "unknown", "wrongCauses", "unpaid",
+        "wrongLines", "broken", "checksum", "paidShare", "meanDepth", "isSound"));
     for (int scene = -1; scene <= scenes; scene++) {
-      ask(all, room, "sceneAt", scene);
-      ask(all, room, "depth", scene);
+      all.add("sceneAt " + scene);
+      all.add("depth " + scene);
     }
     for (int question = -1; question <= 20; question++) {
-      ask(all, room, "questionIs", question);
+      all.add("questionIs " + question);
     }
     for (int fact = -1; fact <= facts; fact++) {
-      askOfFact(all, room, fact);
+      askOfFact(all, fact);
     }
     for (int person = -1; person <= people; person++) {
-      askOfPerson(all, room, person, facts, scenes);
+      askOfPerson(all, person, facts, scenes);
     }
     for (int episode = -1; episode <= 8; episode++) {
-      askOfEpisode(all, room, episode, facts);
+      askOfEpisode(all, episode, facts);
     }
     return all;
   }
 
-  private static void ask(TreeMap<String, Object> all, Object room, String name, Object... args) {
-    all.put(name + java.util.Arrays.toString(args), answer(room, name, args));
-  }
-
-  private static void askOfFact(TreeMap<String, Object> all, Object room, int fact) {
-    for (String name : new String[] {"knowers", "clashes", "repair", "isSo"}) {
-      ask(all, room, name, fact);
+  private static void askOfFact(List<String> all, int fact) {
+    for (String name : new String[] {"knowers ", "clashes ", "repair ", "isSo "}) {
+      all.add(name + fact);
     }
     for (int episode = -1; episode <= 8; episode++) {
-      ask(all, room, "remembers", fact, episode, true);
-      ask(all, room, "remembers", fact, episode, false);
+      all.add("remembers " + fact + " " + episode + " true");
+      all.add("remembers " + fact + " " + episode + " false");
     }
   }
 
-  private static void askOfPerson(
-      TreeMap<String, Object> all, Object room, int person, int facts, int scenes) {
+  private static void askOfPerson(List<String> all, int person, int facts, int scenes) {
     for (int fact = -1; fact <= facts; fact++) {
-      ask(all, room, "since", person, fact);
+      all.add("since " + person + " " + fact);
       for (int scene = -1; scene <= scenes; scene++) {
-        ask(all, room, "knows", person, fact, scene);
+        all.add("knows " + person + " " + fact + " " + scene);
       }
     }
     for (int episode = -1; episode <= 8; episode++) {
-      ask(all, room, "leaving", person, episode);
+      all.add("leaving " + person + " " + episode);
     }
   }
 
-  private static void askOfEpisode(
-      TreeMap<String, Object> all, Object room, int episode, int facts) {
-    ask(all, room, "shooting", episode);
+  private static void askOfEpisode(List<String> all, int episode, int facts) {
+    all.add("shooting " + episode);
     for (int writer = -1; writer <= 6; writer++) {
-      ask(all, room, "credit", episode, writer);
+      all.add("credit " + episode + " " + writer);
     }
-    for (boolean isWeekly : new boolean[] {true, false}) {
-      ask(all, room, "recap", episode, isWeekly);
+    for (String kind : new String[] {" true", " false"}) {
+      all.add("recap " + episode + kind);
       for (int index = -1; index <= facts; index++) {
-        ask(all, room, "recapAt", episode, isWeekly, index);
+        all.add("recapAt " + episode + kind + " " + index);
       }
     }
   }

@@ -4,6 +4,7 @@ import java.util.Objects;
 final class Check {
   private static int made = 0;
   private static int wrong = 0;
+  private static String test = "";
 
   interface Call {
     Object run();
@@ -11,11 +12,21 @@ final class Check {
 
   private Check() {}
 
+  /** Says which test the checks from here on are of. */
+  static void begin(String name) {
+    test = name;
+  }
+
+  static int made() {
+    return made;
+  }
+
   static void same(String what, Object got, Object want) {
     made++;
     if (!Objects.equals(got, want)) {
       wrong++;
-      System.out.println(what + " answered " + got + ", due is " + want);
+      String name = test.isEmpty() ? "" : test + ": ";
+      System.out.println(name + what + " answered " + got + ", due is " + want);
     }
   }
 

@@ -38,7 +38,7 @@ final class Rooms {
   static String order(Writersroom room) {
     StringBuilder all = new StringBuilder();
     for (int place = 0; place < 30; place++) {
-      Object scene = Calls.answer(room, "sceneAt", place);
+      Object scene = Calls.answer(room, "sceneAt " + place);
       if (scene instanceof Integer) {
         all.append(all.length() == 0 ? "" : " ").append(scene);
       }
