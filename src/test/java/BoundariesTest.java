@@ -5,6 +5,7 @@
 public final class BoundariesTest {
   public static void main(String[] args) {
     group("too small and too large", RangeCases::tests);
+    group("too large in a full room", GreatestCases::tests);
     group("empty", EmptyCases::tests);
     group("full", FullCases::tests);
     group("a wrap-around", WrapCases::tests);

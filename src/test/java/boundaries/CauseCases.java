@@ -167,6 +167,11 @@ final class CauseCases {
             .fails("pay 0 2", STATE));
     Suite.test(23, words, "it was paid in what aired in place of what did not",
         () -> Run.of(FOUR, "setUp 0; pay 0 3; pay 0 1; air; air").fails("pay 0 3", STATE));
+    Suite.test(23, words, "it was paid in what aired, though it is not paid by that",
+        () -> Run.of(FOUR, "setUp 1; pay 0 0; air").fails("pay 0 2", STATE).due("unpaid", 1));
+    Suite.test(23, words, "it was paid in what aired, though that is cut",
+        () -> Run.of(FOUR, "setUp 0; pay 0 1; setCut 1 true; air; air").fails("pay 0 2", STATE)
+            .due("unpaid", 1));
     Suite.test(23, words, "it was paid in what did not air in place of what did",
         () -> Run.of(FOUR, "setUp 0; pay 0 1; pay 0 3; air; air").due("pay 0 2", true));
   }
