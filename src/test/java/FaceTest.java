@@ -5,7 +5,9 @@ import java.lang.reflect.Modifier;
 import java.nio.charset.StandardCharsets;
 import java.nio.file.Files;
 import java.nio.file.Path;
+import java.util.ArrayList;
 import java.util.HashSet;
+import java.util.List;
 import java.util.Set;
 import java.util.TreeSet;
 import java.util.regex.Matcher;
@@ -16,9 +18,12 @@ public final class FaceTest {
   public static void main(String[] args) throws Exception {
     String document = Files.readString(Path.of("../shared/DOC.md"), StandardCharsets.UTF_8);
     int from = document.indexOf("```java");
-    methods(document.substring(from, document.indexOf("```", from + 7)));
+    String face = document.substring(from, document.indexOf("```", from + 7));
+    methods(face);
     members();
     String source = Files.readString(Path.of("src/main/java/Writersroom.java"));
+    Check.same("what is public in the document", declarations(face).size(), 50);
+    Check.same("the public face, word by word", declarations(source), declarations(face));
     headings(document, source);
     language(source);
     Check.end();
@@ -43,6 +48,16 @@ public final class FaceTest {
     }
     Check.same("how many methods", found.size(), 48);
     Check.same("the methods", found, due);
+  }
+
+  /** All that is public in a text, in its order, with the names of the parameters. */
+  private static List<String> declarations(String text) {
+    List<String> found = new ArrayList<>();
+    Matcher line = Pattern.compile("(?m)^ *(public [^;{]+)[;{]").matcher(text);
+    while (line.find()) {
+      found.add(line.group(1).strip().replaceAll("\\s+", " "));
+    }
+    return found;
   }
 
   private static String names(Class<?>[] types) {
