@@ -111,6 +111,13 @@ final class BoardCases {
     Suite.test(37, "Returns how many moves were done.", "one to where the scene is",
         () -> Run.of(THREE, "propose 0 1 1 0").due("merge 0", 1).order("0 1 2"));
     Suite.test(37, "To merge a branch does its moves, one after the other",
+        "scenes move with what is told of them",
+        () -> Run.of("person true; fact", THREE, "present 0 0 true; tell 0 0; keep 0 0 0 true",
+            "setUp 0; say 0 0 5; propose 0 0 7 0").due("merge 0", 1).due("knowers 0", 0)
+            .due("keep 0 0 0 false", true).due("since 0 0", 0).due("unpaid", 1)
+            .due("never 0 5 true", false).due("wrongLines", 1).due("shooting 7", 1)
+            .due("credit 7 0", 1000));
+    Suite.test(37, "To merge a branch does its moves, one after the other",
         "a later one goes by what earlier ones did",
         () -> Run.of(THREE, "cause 0 1; propose 0 1 3 0; propose 0 0 2 30").due("merge 0", 2)
             .order("2 0 1").due("wrongCauses", 0));

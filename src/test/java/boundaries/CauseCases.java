@@ -80,6 +80,8 @@ final class CauseCases {
         () -> Run.of(FOUR).due("depth 0", 1).due("depth 3", 1));
     Suite.test(21, row, "the longer of two rows",
         () -> Run.of(FOUR, "cause 0 3; cause 0 1; cause 1 3").due("depth 3", 3));
+    Suite.test(21, row, "the longer of two rows, whichever was told last",
+        () -> Run.of(FOUR, "cause 1 3; cause 0 1; cause 0 3").due("depth 3", 3));
     Suite.test(21, row, "it ends the row, and does not begin it",
         () -> Run.of(FOUR, "cause 2 3").due("depth 2", 1).due("depth 3", 2));
     Suite.test(21, row, "a cause that is behind",
@@ -248,6 +250,9 @@ final class CauseCases {
     Suite.test(27, words, "due by the last episode",
         () -> Run.of(FOUR, "question 0 0 7", Run.times(7, "air")).due("questionIs 0", 'w')
             .does("air").due("questionIs 0", 'l'));
+    Suite.test(27, words, "late still as later episodes air",
+        () -> Run.of(FOUR, "question 0 0 1; air; air; air").due("questionIs 0", 'l')
+            .does(Run.times(5, "air")).due("questionIs 0", 'l'));
     Suite.test(27, words, "cut, though answered and meant to stay",
         () -> Run.of(FOUR, "question 0 0 7; tell 1 0; stay 0 true; setCut 0 true")
             .due("questionIs 0", '-').does("setCut 0 false").due("questionIs 0", 'a'));

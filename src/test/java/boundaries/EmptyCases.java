@@ -34,7 +34,8 @@ final class EmptyCases {
   }
 
   /**
-   * What a call answers on a new object, on one with each kind of thing, and with all its scenes cut.
+   * What a call answers on a new object, on one with each kind of thing, and with all its scenes cut;
+   * airing and a strike change none of these.
    */
   private static void asks(int promise, String call, Object fresh, Object full, Object cut) {
     Suite.test(1, "Creates a season without people, facts and scenes, of which nothing aired.",
@@ -44,6 +45,8 @@ final class EmptyCases {
     Suite.test(promise, "what is told of them holds when they are taken back",
         call + ": all taken back",
         () -> Run.of(ALL_KINDS, CUT_ALL, TAKE_ALL_BACK).due(call, full));
+    Suite.test(promise, "What aired is canon.", call + ": all aired, and in a strike",
+        () -> Run.of(ALL_KINDS, Run.times(8, "air"), "strike true").due(call, full));
   }
 
   /** What a call answers where nothing of the kind is, though people, facts and scenes are. */

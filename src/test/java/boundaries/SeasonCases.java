@@ -166,6 +166,10 @@ final class SeasonCases {
           .order("0 1 2").due("since 0 0", 0).due("unknown", 0)
           .due("credit 0 0", 1000).due("shooting 0", 1);
     });
+    Suite.test(8, "Airs the next episode.", "votes and moves stay", () -> {
+      Run.of(THREE, "scene 1 0 0 0 0; vote 0 1 true; vote 2 1 true; propose 1 3 7 0; air")
+          .due("vote 3 1 true", 3).due("propose 1 0 7 1", 2).due("merge 1", 1).order("0 1 2 3");
+    });
   }
 
   /** Whatever is told of a scene, of an episode that aired, is refused; of the next one it is not. */
@@ -205,6 +209,11 @@ final class SeasonCases {
     Suite.test(9, "Returns whether it was.", "none was", () -> new Run().due("strike false", false));
     Suite.test(9, "In a strike, nothing is told but airing, and its end.", "airing and its end",
         () -> Run.of("strike true").due("air", 0).due("strike false", true).due("air", 1));
+    Suite.test(9, "Begins a strike, or ends it.", "what was told ahead of it holds", () -> {
+      Run.of("person true; fact", THREE, "present 0 0 true; vote 0 1 true; vote 2 1 true",
+          "propose 1 0 7 0; strike true; strike false").due("vote 3 1 true", 3)
+          .due("propose 1 1 7 0", 2).due("merge 1", 2).order("2 0 1").due("tell 0 0", 1);
+    });
   }
 
   private static void strikeEachCall() {
@@ -244,6 +253,8 @@ final class SeasonCases {
             .does("move 0 0 0").due("goesBack", 0));
     Suite.test(10, words, "back by two days in two steps",
         () -> Run.of("scene 0 0 5 0 0; scene 0 1 4 0 0; scene 0 2 3 0 0").due("goesBack", 2));
+    Suite.test(10, words, "as all 8 aired",
+        () -> Run.of("scene 0 0 5 0 0; scene 7 0 4 0 0", Run.times(8, "air")).due("goesBack", 1));
     Suite.test(10, words, "past a cut one",
         () -> Run.of("scene 0 0 5 0 0; scene 0 1 3 0 0; scene 0 2 4 0 0").due("goesBack", 1)
             .does("setCut 1 true").due("goesBack", 1).does("setCut 0 true").due("goesBack", 0));

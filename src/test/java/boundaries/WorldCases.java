@@ -114,6 +114,13 @@ final class WorldCases {
     Suite.test(13, there, "others, and other facts, aside",
         () -> Run.of(WORLD, ALL_PRESENT, "keep 0 0 0 true; tell 0 0; tell 0 1")
             .due("since 1 0", 0).due("since 0 1", 0).due("knowers 0", 1));
+    Suite.test(13, there, "kept from who was not present for a while",
+        () -> Run.of(WORLD, "present 0 0 true; keep 0 0 0 true; present 0 0 false",
+            "present 0 0 true").due("tell 0 0", 0).due("keep 0 0 0 false", true));
+    Suite.test(13, there, "kept in a scene that was cut, or moved, for a while",
+        () -> Run.of(WORLD, "present 0 0 true; tell 0 0; keep 0 0 0 true; setCut 0 true",
+            "move 0 7 0; setCut 0 false").due("knowers 0", 0).due("keep 0 0 0 false", true)
+            .due("knowers 0", 1));
   }
 
   private static void act() {
